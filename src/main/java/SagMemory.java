@@ -1363,6 +1363,9 @@ public final class SagMemory {
             cold = valley.cold;
             for (int i = 0; i < acts.done; i++) {
                 int cart = acts.carts[i];
+                if (!valley.hasCart(cart)) {
+                    continue;
+                }
                 if (acts.kinds[i] == Acts.SENT) {
                     ways[cart] = acts.values[i];
                 } else if (acts.values[i] == 1) {
