@@ -261,7 +261,11 @@ public final class ActTest {
         Told.fill(y, 0, 0, 20);
         TOLD.due("sets", y.sets(0, 0), 1);
         y.row(0, 0, 1);
-        TOLD.due("all 0 anew", y.sets(0, 0), 0);
+        TOLD.due("no longer 20", y.sets(0, 0), 0);
+        Told.fill(y, 0, 0, 7, 7, 7);
+        y.send(0, -1);
+        y.row(0, 0, 3);
+        TOLD.due("all 0 anew: BRIDGE 0, turn 0, SAG 0", y.laws(0), 15);
         y.row(0, 0, 0);
         TOLD.due("of none", y.sets(0, 0), 1);
     }

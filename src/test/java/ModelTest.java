@@ -62,7 +62,21 @@ public final class ModelTest {
         for (int f = 0; f < frosts; f++) {
             model.frosts.add(from(0, 6));
         }
+        leaveOld();
         due("valley()", Told.tell(x, model.text()), 1 + bridges + carts + wards + frosts);
+    }
+
+    /** Another VALLEY ahead of this one: nothing of it may be seen any more. */
+    private void leaveOld() {
+        Told.tell(x, "valley law 0 frost 1 odds 9;bridge holds 1 toll 9;bridge holds 1 toll 9;bridge holds 1 toll 9;"
+            + "cart 99 by 0;cart 98 by 1;cart 97 by 2;cart 96 by 0;cart 95 by 1;cart 94 by 2;cart 93 by 0;frost at 5;");
+        x.send(3, 2);
+        x.least();
+        x.routes();
+        x.rate(0, 300);
+        x.undo();
+        x.rate(0, 300);
+        x.liars(0);
     }
 
     private void act() {

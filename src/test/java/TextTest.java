@@ -28,8 +28,7 @@ public final class TextTest {
         for (int what = 0; what <= 10; what++) {
             TOLD.due("count(" + what + ")", x.count(what), 0);
         }
-        TOLD.due("waits()", x.waits(), -2);
-        TOLD.due("undo()", x.undo(), -2);
+        noValley(x);
         TOLD.due("mean(0, 0)", x.mean(0, 0), -2);
         TOLD.due("send(0, 0)", x.send(0, 0), -2);
         TOLD.due("freeze(0, 1)", x.freeze(0, 1), -2);
@@ -37,6 +36,14 @@ public final class TextTest {
         TOLD.due("luck(0, 1, 0)", x.luck(0, 1, 0), -2);
         TOLD.due("rest(0, 1)", x.rest(0, 1), -2);
         TOLD.due("back(0)", x.back(0), -6);
+    }
+
+    private static void noValley(SagMemory x) {
+        int[] answers = {x.waits(), x.loudest(), x.tolls(), x.fails(), x.least(), x.orders(), x.across(), x.routes(), x.safe(),
+            x.worst(), x.forget(), x.law(), x.by(0), x.undo(), x.anew(), x.drawn(0, 0), x.liars(0), x.laws(0)};
+        for (int i = 0; i < answers.length; i++) {
+            TOLD.due("call " + i + " without a VALLEY", answers[i], -2);
+        }
     }
 
     private static void feed() {
@@ -95,7 +102,7 @@ public final class TextTest {
         TOLD.due("no acts", x.count(7), 0);
         TOLD.due("count(4)", x.count(4), 0);
         TOLD.due("blanks alone", Told.tell(x, " \n \n"), 0);
-        TOLD.due("none there", x.waits(), -2);
+        noValley(x);
         TOLD.due("none there", x.bridge(0, 0), -2);
         for (int what = 0; what <= 9; what++) {
             TOLD.due("count(" + what + ") of none", x.count(what), 0);
@@ -197,6 +204,8 @@ public final class TextTest {
     private static void tokens() {
         faulty(V + "Cart", 1, 28);
         faulty(V + "carts", 1, 28);
+        faulty(V + "cartz", 1, 28);
+        faulty(V + "carta", 1, 28);
         faulty(V + "\tcart", 1, 28);
         faulty(V + "halt", 1, 28);
         faulty(V + ";", 1, 28);

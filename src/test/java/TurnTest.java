@@ -170,6 +170,8 @@ public final class TurnTest {
         TOLD.due("most(0, 0)", y.most(0, 0), 2);
         SagMemory z = Told.of(carts(0, 5, 45));
         TOLD.due("most(0, 0): none would", z.most(0, 0), -1);
+        SagMemory last = Told.of(Told.V + "bridge holds 98 toll 1;cart 1 by 0;");
+        TOLD.due("most(0, 0): 99 alone", last.most(0, 0), 99);
         SagMemory w = Told.of("valley law 2 frost 5 odds 3;bridge holds 50 toll 1;cart 45 by 0;");
         // Above half of 45, and half of 23 is 11.
         TOLD.due("most(0, 0) by LAW 2", w.most(0, 0), 23);
