@@ -3,6 +3,7 @@ final class Told {
     static final String V = "valley law 0 frost 5 odds 3;";
 
     private final String name;
+    private String sentence = "";
     private int asked;
     private int wrong;
 
@@ -10,11 +11,43 @@ final class Told {
         this.name = name;
     }
 
+    /** What is asked from here on: a sentence of the document, of a term (I) or a promise (P1). */
+    void says(String where, String words) {
+        sentence = " (" + where + ": " + words + ")";
+    }
+
     void due(String call, long got, long want) {
         asked++;
         if (got != want) {
             wrong++;
-            System.out.println(name + ": " + call + " answered " + got + ", due is " + want);
+            System.out.println(name + ": " + call + " answered " + got + ", due is " + want + sentence);
+        }
+    }
+
+    /** A call with one number. */
+    interface Call {
+        long of(int number);
+    }
+
+    /** Answers to 0, 1, .., as many as are wanted. */
+    void each(String call, Call asked, long... want) {
+        for (int i = 0; i < want.length; i++) {
+            due(call + " of " + i, asked.of(i), want[i]);
+        }
+    }
+
+    /** One answer to all of these numbers. */
+    void same(String call, Call asked, long want, int... numbers) {
+        for (int number : numbers) {
+            due(call + " of " + number, asked.of(number), want);
+        }
+    }
+
+    /** Answers one after another. */
+    void row(String call, long[] got, long... want) {
+        due(call + ": how many", got.length, want.length);
+        for (int i = 0; i < Math.min(got.length, want.length); i++) {
+            due(call + " of " + i, got[i], want[i]);
         }
     }
 
@@ -47,6 +80,15 @@ final class Told {
             throw new IllegalStateException("fault " + x.fault(0) + " at " + x.fault(1) + ": " + text);
         }
         return x;
+    }
+
+    /** The LINES of CARTS by one BRIDGE. */
+    static String carts(int bridge, int... loads) {
+        StringBuilder text = new StringBuilder();
+        for (int load : loads) {
+            text.append("cart ").append(load).append(" by ").append(bridge).append(";");
+        }
+        return text.toString();
     }
 
     static void fill(SagMemory x, int slot, int width, long... numbers) {
