@@ -126,7 +126,8 @@ public final class ActEdgeTest {
     }
 
     private static void freezeEdges() {
-        TOLD.says("P62", "FROST comes ahead of a CART besides (on 1), or none does (on 0; also not the one told): 1 if it was there, else 0");
+        TOLD.says("P62", "FROST comes ahead of a CART besides (on 1), or none does (on 0; also not the one told): 1 if it"
+            + " was there, else 0");
         SagMemory x = Told.of(SEVEN);
         TOLD.row("told", new long[] {x.cold(1), x.freeze(1, 1), x.cold(1), x.freeze(1, 0), x.cold(1), x.freeze(1, 0),
             x.freeze(1, 1), x.cold(1)}, 1, 1, 1, 1, 0, 0, 0, 1);
@@ -210,11 +211,13 @@ public final class ActEdgeTest {
     // ---- winters drawn ----
 
     private static SagMemory odds(int odds) {
-        return Told.of("valley law 0 frost 5 odds " + odds + ";" + WIDE + "bridge holds 1 toll 1;" + Told.carts(0, 9, 9, 9, 9, 9, 9, 9));
+        return Told.of("valley law 0 frost 5 odds " + odds + ";" + WIDE + "bridge holds 1 toll 1;"
+            + Told.carts(0, 9, 9, 9, 9, 9, 9, 9));
     }
 
     private static void drawnEdges() {
-        TOLD.says("P65", "A winter drawn (IX) from a seed (0 .. 2,000,000,000), what 0: CARTS ahead of which there is FROST, as bits");
+        TOLD.says("P65", "A winter drawn (IX) from a seed (0 .. 2,000,000,000), what 0: CARTS ahead of which there is"
+            + " FROST, as bits");
         TOLD.row("odds 0", new long[] {odds(0).drawn(0, 0), odds(0).drawn(2000000000, 0)}, 0, 0);
         TOLD.row("odds 10", new long[] {odds(10).drawn(0, 0), odds(10).drawn(2000000000, 0)}, 127, 127);
         // The draws from 0 are 0 8 8 7 8 7 5.
@@ -230,7 +233,8 @@ public final class ActEdgeTest {
     }
 
     private static void drawsByHand() {
-        TOLD.says("IX", "x becomes (1103515245 x + 12345) modulo 2,147,483,648 (at first it is the seed); a draw: x / 65536, cut, modulo 10");
+        TOLD.says("IX", "x becomes (1103515245 x + 12345) modulo 2,147,483,648 (at first it is the seed); a draw: x /"
+            + " 65536, cut, modulo 10");
         long[] seeds = {0, 1, 65535, 65536, 1234567890, 1999999999, 2000000000};
         for (long seed : seeds) {
             long x = seed;
@@ -274,8 +278,8 @@ public final class ActEdgeTest {
                 long at = (long) seed + n - 1;
                 long second = (1103515245L * ((1103515245L * at + 12345L) & 0x7fffffffL) + 12345L) & 0x7fffffffL;
                 broke += (second >> 16) % 10 < 5 ? 0 : 1;
-                TOLD.row("luck(" + seed + ", " + n + ", b)", new long[] {x.luck(seed, n, 0), x.luck(seed, n, 1), x.luck(seed, n, 2)},
-                    broke, 0, n);
+                TOLD.row("luck(" + seed + ", " + n + ", b)",
+                    new long[] {x.luck(seed, n, 0), x.luck(seed, n, 1), x.luck(seed, n, 2)}, broke, 0, n);
             }
         }
     }
@@ -383,6 +387,14 @@ public final class ActEdgeTest {
             Told.tell(x, Told.V);
         }
         TOLD.row("and again", new long[] {x.back(2), x.count(7)}, 0, 3);
+        x.anew();
+        x.freeze(3, 1);
+        x.freeze(4, 1);
+        x.freeze(5, 1);
+        x.image(1);
+        TOLD.row("each its own", new long[] {x.back(2), x.comes(0), x.comes(6), x.cold(3), x.cold(4)}, 0, 1, -1, 0, 0);
+        TOLD.row("each its own", new long[] {x.back(1), x.comes(0), x.comes(6), x.cold(3), x.cold(4)}, 0, 0, 0, 1, 1);
+        TOLD.row("each its own", new long[] {x.back(2), x.comes(6), x.cold(2)}, 0, -1, 1);
         // A later one is in place of it.
         x.undo();
         x.image(2);
@@ -413,6 +425,11 @@ public final class ActEdgeTest {
         TOLD.row("back(1)", new long[] {x.back(1), x.count(7), x.goes(0), x.goes(6)}, 0, 2, 1, 0);
         TOLD.row("twice", new long[] {x.back(1), x.count(7), x.goes(0), x.goes(6)}, 0, 2, 1, 0);
         TOLD.row("the TAPE and SLOTS stay", new long[] {x.count(9), x.count(10), x.sets(0, 0), x.valley()}, 65, 3, 1, 3);
+        // Others are done in their places meanwhile.
+        x.anew();
+        x.freeze(5, 1);
+        x.send(4, 2);
+        TOLD.row("behind others", new long[] {x.back(1), x.goes(0), x.cold(2), x.cold(5), x.goes(4), x.count(7)}, 0, 1, 1, 0, 0, 2);
         TOLD.row("the acts as they were", new long[] {x.back(1), x.undo(), x.cold(2), x.undo(), x.goes(0), x.undo()},
             0, 1, 0, 0, 0, -5);
     }
@@ -562,7 +579,8 @@ public final class ActEdgeTest {
     }
 
     private static void pasteEdges() {
-        TOLD.says("P73", "So many numbers of a SLOT's row, from one on, are put to another one's (or its own), from one on, as they were: 0");
+        TOLD.says("P73", "So many numbers of a SLOT's row, from one on, are put to another one's (or its own), from one"
+            + " on, as they were: 0");
         long[] first = {11, 12, 13, 14, 15};
         long[] second = {21, 22, 23};
         pasted(new int[] {0, 0, 1, 0, 3}, first, new long[] {11, 12, 13});
@@ -662,10 +680,12 @@ public final class ActEdgeTest {
             -2, -2, -2, -2, -2, -2, -2, -2, -2, -2, -2, -2);
         SagMemory x = Told.of(SEVEN);
         TOLD.row("-6 else", new long[] {x.sets(0, 3), x.surely(0, 3), x.never(0, 3), x.fewest(0, 3), x.ask(0, 3), x.leaves(0, 3),
-            x.loads(0, 7), x.light(0, 7), x.heavy(0, 7), x.paste(0, 0, 4, 0, 0), x.paste(4, 0, 0, 0, 0), x.back(3), x.write(4, 0, 0)},
+            x.loads(0, 7), x.light(0, 7), x.heavy(0, 7), x.paste(0, 0, 4, 0, 0), x.paste(4, 0, 0, 0, 0),
+            x.back(3), x.write(4, 0, 0)},
             -2, -2, -2, -2, -2, -2, -2, -2, -2, -2, -2, -2, -2);
         TOLD.row("-6", new long[] {x.sets(0, 2), x.surely(0, 2), x.never(0, 2), x.fewest(0, 2), x.ask(0, 2), x.leaves(0, 2),
-            x.loads(0, 6), x.light(0, 6), x.heavy(0, 6), x.liars(0), x.laws(0), x.paste(0, 0, 3, 0, 0), x.back(2), x.write(3, 0, 0)},
+            x.loads(0, 6), x.light(0, 6), x.heavy(0, 6), x.liars(0), x.laws(0), x.paste(0, 0, 3, 0, 0),
+            x.back(2), x.write(3, 0, 0)},
             -6, -6, -6, -6, -6, -6, -6, -6, -6, -6, -6, -6, -6, -6);
         TOLD.row("-1,000", new long[] {none.gives(0), none.spare(0), none.spared(0), x.gives(7), x.spare(3), x.spared(7)},
             -1000, -1000, -1000, -1000, -1000, -1000);

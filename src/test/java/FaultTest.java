@@ -14,15 +14,15 @@ public final class FaultTest {
         "ward 1 over 5 to halt;", "frost at 4;", "bridge\nholds 300 toll 0 ;", "frost at 6;"};
 
     // What the reading found: the fault and its place, or the lines.
-    private int fault;
-    private int place;
-    private int lines;
+    int fault;
+    int place;
+    int lines;
     private int bridges;
     private final List<int[]> spans = new ArrayList<>();
     private final String text;
     private int next;
 
-    private FaultTest(String text) {
+    FaultTest(String text) {
         this.text = text;
         Matcher matcher = Pattern.compile("[a-z]+|[0-9]+|[^ \n]", Pattern.DOTALL).matcher(text);
         while (matcher.find()) {
@@ -108,7 +108,7 @@ public final class FaultTest {
         return (int) value;
     }
 
-    private void read() {
+    void read() {
         int[] counts = new int[4];
         int[] most = {3, 7, 5, 4};
         while (fault == 0 && !token().isEmpty()) {

@@ -33,6 +33,56 @@ final class Model {
         return text.toString();
     }
 
+    /** Of a text without FAULTS. */
+    static Model of(String text) {
+        Model made = new Model();
+        for (String line : text.replaceAll("\\s+", " ").split(";")) {
+            String[] words = line.trim().split(" ");
+            switch (words[0]) {
+                case "valley":
+                    made.law = Integer.parseInt(words[2]);
+                    made.frost = Integer.parseInt(words[4]);
+                    made.odds = Integer.parseInt(words[6]);
+                    break;
+                case "bridge":
+                    made.bridges.add(new int[] {Integer.parseInt(words[2]), Integer.parseInt(words[4])});
+                    break;
+                case "cart":
+                    made.carts.add(new int[] {Integer.parseInt(words[1]), Integer.parseInt(words[3])});
+                    break;
+                case "ward":
+                    made.wards.add(new int[] {Integer.parseInt(words[1]), Integer.parseInt(words[3]),
+                        words[5].equals("halt") ? -1 : Integer.parseInt(words[5])});
+                    break;
+                case "frost":
+                    made.frosts.add(Integer.parseInt(words[2]));
+                    break;
+                default:
+                    break;
+            }
+        }
+        return made;
+    }
+
+    int lines() {
+        return 1 + bridges.size() + carts.size() + wards.size() + frosts.size();
+    }
+
+    Model copy() {
+        Model other = new Model();
+        other.law = law;
+        other.frost = frost;
+        other.odds = odds;
+        for (int[] bridge : bridges) {
+            other.bridges.add(bridge.clone());
+        }
+        other.carts.addAll(carts);
+        other.wards.addAll(wards);
+        other.frosts.addAll(frosts);
+        other.acts.addAll(acts);
+        return other;
+    }
+
     /** All that a story goes by. */
     final class Case {
         int by = law;

@@ -15,7 +15,8 @@ public final class QuoteTest {
     private static final Told TOLD = new Told("QuoteTest");
     private static final Path DOCUMENT = Path.of("../shared/DOC.md");
     private static final Path TESTS = Path.of("src/test/java");
-    private static final Pattern SAYS = Pattern.compile("TOLD\\.says\\(\"([^\"]*)\",((?:\\s*\\+?\\s*\"(?:[^\"\\\\]|\\\\.)*\")+)\\)");
+    private static final Pattern SAYS = Pattern.compile(
+        "TOLD\\.says\\(\"([^\"]*)\",((?:\\s*\\+?\\s*\"(?:[^\"\\\\]|\\\\.)*\")+)\\)");
     private static final Pattern REFUSAL = Pattern.compile("(?<![\\w.])-\\d[\\d,]*|NONE");
 
     public static void main(String[] args) throws IOException {

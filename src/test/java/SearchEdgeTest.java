@@ -218,7 +218,8 @@ public final class SearchEdgeTest {
     }
 
     private static void sparedEdges() {
-        TOLD.says("P40", "by how much SAG of all BRIDGES at the end is less without a CART (below 0: more). -1,000: there is none such");
+        TOLD.says("P40", "by how much SAG of all BRIDGES at the end is less without a CART (below 0: more). -1,000: there"
+            + " is none such");
         SagMemory x = line(1, 99, 49, 30);
         // 99; wiped out; 30. Without 99: 49, 30 as LAW 1 has it; without 49: 99 is wiped out by 30; without 30: none.
         TOLD.each("spared", x::spared, -34, 30, 30, -1000);
@@ -230,7 +231,8 @@ public final class SearchEdgeTest {
     }
 
     private static void worstEdges() {
-        TOLD.says("P41", "The CART without which it is least, if less than now, the first of several. NONE: none; -2: there is no VALLEY");
+        TOLD.says("P41", "The CART without which it is least, if less than now, the first of several. NONE: none; -2:"
+            + " there is no VALLEY");
         TOLD.due("the least", line(0, 20, 30, 10).worst(), 1);
         TOLD.due("the first of several", Told.of(valley(0, 5, 3) + WIDE + WIDE + Told.carts(0, 9) + Told.carts(1, 9)).worst(), 0);
         TOLD.due("the last", line(0, 9, 9, 20).worst(), 2);
@@ -246,7 +248,8 @@ public final class SearchEdgeTest {
         TOLD.due("nothing is there to forget ahead of the first", line(0, 9).forget(), -1);
         TOLD.due("ahead of the second", line(0, 9, 1).forget(), 1);
         TOLD.due("the last", line(0, 9, 10, 1).forget(), 2);
-        TOLD.due("the first of several", Told.of(valley(0, 5, 3) + WIDE + WIDE + Told.carts(0, 9) + Told.carts(1, 1, 1)).forget(), 1);
+        TOLD.due("the first of several",
+            Told.of(valley(0, 5, 3) + WIDE + WIDE + Told.carts(0, 9) + Told.carts(1, 1, 1)).forget(), 1);
         // Wiped out at the end by 99: as much as now.
         TOLD.due("no less than now", line(0, 9, 8, 99).forget(), -1);
         SagMemory x = line(0, 9, 1);
@@ -579,7 +582,8 @@ public final class SearchEdgeTest {
     }
 
     private static void byEdges() {
-        TOLD.says("P54", "SAG of all BRIDGES at the end by a LAW in place of the one told. -2: there is none such (0 .. 3), no VALLEY");
+        TOLD.says("P54", "SAG of all BRIDGES at the end by a LAW in place of the one told. -2: there is none such (0 .."
+            + " 3), no VALLEY");
         for (int told = 0; told < 4; told++) {
             SagMemory x = line(told, 40, 19);
             TOLD.each("by", x::by, 49, 0, 40, 0, -2);
@@ -667,7 +671,8 @@ public final class SearchEdgeTest {
             TOLD.row("rests of " + cases[i][0], new long[] {x.rest(0, 1), x.rests(0, 1)}, cases[i][1], rests[i]);
         }
         // One that finds it broken loses 9, too.
-        SagMemory broken = Told.of(valley(0, 5, 3) + "bridge holds 1 toll 9;bridge holds 300 toll 1;" + Told.carts(0, 2) + Told.carts(1, 10));
+        SagMemory broken = Told.of(valley(0, 5, 3) + "bridge holds 1 toll 9;bridge holds 300 toll 1;" + Told.carts(0, 2)
+            + Told.carts(1, 10));
         // The first: 18 by 0, 2 by 1. The second: by 0 90 or 9 if it is broken; by 1 10 or 8.
         TOLD.row("rests", new long[] {broken.rests(0, 1), broken.rest(0, 1)}, 1, 11);
     }
@@ -683,11 +688,12 @@ public final class SearchEdgeTest {
         SagMemory last = Told.of(valley(0, 5, 3) + "bridge holds 300 toll 9;bridge holds 300 toll 9;" + free + Told.carts(0, 9, 9));
         // By 2 it is free; behind the other one it is free anywhere.
         TOLD.row("by 2 each", new long[] {last.rests(0, 1), last.rest(0, 1)}, 1, 22);
-        SagMemory two = Told.of(valley(0, 5, 3) + "bridge holds 300 toll 9;" + free + "bridge holds 300 toll 2;" + Told.carts(0, 9, 9)
-            + "ward 1 over 8 to halt;");
+        SagMemory two = Told.of(valley(0, 5, 3) + "bridge holds 300 toll 9;" + free + "bridge holds 300 toll 2;"
+            + Told.carts(0, 9, 9) + "ward 1 over 8 to halt;");
         // By 1 it is halted: 9. By 2 it pays 18, by 0 81; behind the other one it pays nothing.
         TOLD.row("first and other", new long[] {two.rests(0, 1), two.rest(0, 1), two.rest(1, 0)}, 1, 11, 11);
-        SagMemory apart = Told.of(valley(0, 5, 3) + WIDE + WIDE + Told.carts(0, 20) + Told.carts(0, 10) + "ward 1 over 15 to halt;");
+        SagMemory apart = Told.of(valley(0, 5, 3) + WIDE + WIDE + Told.carts(0, 20) + Told.carts(0, 10)
+            + "ward 1 over 15 to halt;");
         TOLD.row("first and other", new long[] {apart.rest(0, 1), apart.rest(1, 0)}, 10, 1);
     }
 

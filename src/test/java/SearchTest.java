@@ -47,7 +47,8 @@ public final class SearchTest {
         order(x, 1, 2, 0);
         TOLD.due("orders()", x.orders(), 2);
         TOLD.due("across()", x.across(), 3);
-        SagMemory y = Told.of(Told.V + WIDE + "cart 9 by 0;cart 9 by 0;cart 9 by 0;cart 9 by 0;cart 9 by 0;cart 9 by 0;cart 9 by 0;");
+        SagMemory y = Told.of(Told.V + WIDE
+            + "cart 9 by 0;cart 9 by 0;cart 9 by 0;cart 9 by 0;cart 9 by 0;cart 9 by 0;cart 9 by 0;");
         TOLD.due("least() of seven alike", y.least(), 9);
         order(y, 0, 1, 2, 3, 4, 5, 6);
         TOLD.due("orders() of seven alike", y.orders(), 5040);
@@ -177,7 +178,8 @@ public final class SearchTest {
     }
 
     private static void sets() {
-        SagMemory x = Told.of(Told.V + "bridge holds 1 toll 1;" + TWO + "cart 30 by 0;cart 5 by 0;ward 0 over 1 to halt;frost at 2;");
+        SagMemory x = Told.of(Told.V + "bridge holds 1 toll 1;" + TWO
+            + "cart 30 by 0;cart 5 by 0;ward 0 over 1 to halt;frost at 2;");
         x.send(0, -1);
         Told.fill(x, 0, 0, 30, 5);
         back(x, 0, 4, 12, 0, 12, 0, 2);

@@ -93,8 +93,8 @@ public final class TurnEdgeTest {
 
     private static void frostForgetsEverywhere() {
         TOLD.says("II", "each load that a BRIDGE remembers");
-        SagMemory x = Told.of(valley(0, 5) + WIDE + WIDE + WIDE + Told.carts(0, 20) + Told.carts(1, 30) + Told.carts(2, 40) + Told.carts(0, 1)
-            + "frost at 3;");
+        SagMemory x = Told.of(valley(0, 5) + WIDE + WIDE + WIDE + Told.carts(0, 20) + Told.carts(1, 30) + Told.carts(2, 40)
+            + Told.carts(0, 1) + "frost at 3;");
         TOLD.row("all three", new long[] {x.load(0, 3, 0), x.load(1, 3, 0), x.load(2, 3, 0)}, 15, 25, 35);
         TOLD.row("and not ahead of it", new long[] {x.load(0, 2, 0), x.load(1, 2, 0), x.load(2, 2, 0)}, 20, 30, 40);
     }
@@ -157,7 +157,8 @@ public final class TurnEdgeTest {
         SagMemory x = Told.of(valley(0, 5) + WIDE + WIDE + WIDE + Told.carts(0, 50) + Told.carts(1, 50) + Told.carts(2, 50)
             + "ward 0 over 0 to 1;ward 1 over 0 to 2;ward 2 over 0 to 0;");
         TOLD.each("comes", x::comes, 1, 2, 0, -2);
-        SagMemory y = Told.of(valley(0, 5) + WIDE + WIDE + Told.carts(0, 50) + Told.carts(1, 50) + "ward 0 over 0 to 1;ward 1 over 0 to halt;");
+        SagMemory y = Told.of(valley(0, 5) + WIDE + WIDE + Told.carts(0, 50) + Told.carts(1, 50)
+            + "ward 0 over 0 to 1;ward 1 over 0 to halt;");
         TOLD.each("comes", y::comes, 1, -1, -2);
         TOLD.each("goes", y::goes, 1, -1, -2);
     }
@@ -436,7 +437,8 @@ public final class TurnEdgeTest {
 
     private static void deepestEdges() {
         TOLD.says("P18", "The BRIDGE of the greatest SAG then, the first of several. NONE: there are none; -2 likewise");
-        SagMemory x = Told.of(valley(0, 5) + WIDE + WIDE + WIDE + Told.carts(2, 9) + Told.carts(1, 9) + Told.carts(0, 9) + Told.carts(1, 10));
+        SagMemory x = Told.of(valley(0, 5) + WIDE + WIDE + WIDE + Told.carts(2, 9) + Told.carts(1, 9) + Told.carts(0, 9)
+            + Told.carts(1, 10));
         TOLD.each("deepest", x::deepest, 2, 1, 0, 1, -2);
         TOLD.same("deepest", x::deepest, -2, -1, 4, 7, MIN, MAX);
         // A turn has a CART, and a CART a BRIDGE: without BRIDGES there is no turn.
@@ -538,7 +540,8 @@ public final class TurnEdgeTest {
     private static void failsEdges() {
         TOLD.says("P26", "The first turn behind which a BRIDGE is broken (any). NONE: none; -2: there is no VALLEY");
         String three = valley(0, 5) + "bridge holds 5 toll 1;bridge holds 5 toll 1;bridge holds 5 toll 1;";
-        TOLD.due("the third one, first", Told.of(three + Told.carts(0, 5) + Told.carts(2, 6) + Told.carts(1, 6) + Told.carts(0, 6)).fails(), 1);
+        TOLD.due("the third one, first",
+            Told.of(three + Told.carts(0, 5) + Told.carts(2, 6) + Told.carts(1, 6) + Told.carts(0, 6)).fails(), 1);
         TOLD.due("behind the first", Told.of(three + Told.carts(1, 6)).fails(), 0);
         TOLD.due("behind the last", Told.of(three + Told.carts(0, 5, 5, 5, 5, 5, 5, 6)).fails(), 6);
         TOLD.due("none", Told.of(three + Told.carts(0, 5) + Told.carts(1, 5) + Told.carts(2, 5)).fails(), -1);
@@ -631,6 +634,11 @@ public final class TurnEdgeTest {
         TOLD.each("most(0, t)", t -> x.most(0, t), 2, -1, -2);
         TOLD.same("most(b, 0)", b -> x.most(b, 0), -2, -1, 1, 3, MIN, MAX);
         TOLD.same("most(0, t)", t -> x.most(0, t), -2, -1, 2, 7, MIN, MAX);
+        // Seven are remembered with 251: an eighth is more by an eighth of it.
+        String seven = Told.carts(0, 99, 98, 97, 96, 95, 94, 93);
+        TOLD.due("behind seven", Told.of(valley(0, 5) + "bridge holds 251 toll 1;" + seven).most(0, 6), 8);
+        TOLD.due("behind seven", Told.of(valley(0, 5) + "bridge holds 252 toll 1;" + seven).most(0, 6), 16);
+        TOLD.due("behind seven", Told.of(valley(0, 5) + "bridge holds 262 toll 1;" + seven).most(0, 6), -1);
         // It is broken, though FROST has made it light again.
         SagMemory cold = Told.of(valley(0, 50) + "bridge holds 20 toll 1;" + Told.carts(0, 21, 2) + "frost at 1;");
         TOLD.each("most(0, t)", t -> cold.most(0, t), -1, -1, -2);
