@@ -48,6 +48,7 @@ public final class SearchEdgeTest {
         shareRefused();
         gameLosses();
         gameEdges();
+        gameInPlace();
         gameRefused();
         chanceEdges();
         chanceInPlace();
@@ -695,6 +696,24 @@ public final class SearchEdgeTest {
         SagMemory apart = Told.of(valley(0, 5, 3) + WIDE + WIDE + Told.carts(0, 20) + Told.carts(0, 10)
             + "ward 1 over 15 to halt;");
         TOLD.row("first and other", new long[] {apart.rest(0, 1), apart.rest(1, 0)}, 10, 1);
+    }
+
+    private static void gameInPlace() {
+        TOLD.says("VIII", "Each of two CARTS comes by any BRIDGE in place of its own");
+        String text = valley(0, 5, 3) + "bridge holds 300 toll 9;" + WIDE + Told.carts(0, 20, 10, 30);
+        // By 1 it is cheaper for both, wherever they are told or sent; 30 comes behind them, sent or not.
+        SagMemory x = Told.of(text);
+        TOLD.row("as told", new long[] {x.rests(0, 1), x.rest(0, 1)}, 1, 11);
+        x.send(0, -1);
+        x.send(1, -1);
+        TOLD.row("both halted by acts", new long[] {x.rests(0, 1), x.rest(0, 1), x.goes(0), x.goes(1)}, 1, 11, -1, -1);
+        // The other CARTS come as by acts: behind 30 less is paid, wherever it went.
+        SagMemory y = Told.of(valley(0, 5, 3) + WIDE + WIDE + Told.carts(0, 30, 20, 10));
+        TOLD.row("30 by 0", new long[] {y.rest(1, 2), y.rests(1, 2)}, 0, 1);
+        y.send(0, 1);
+        TOLD.row("30 by 1", new long[] {y.rest(1, 2), y.rests(1, 2)}, 11, 1);
+        y.send(0, -1);
+        TOLD.row("30 halted", new long[] {y.rest(1, 2), y.rests(1, 2)}, 0, 2);
     }
 
     private static void gameRefused() {
