@@ -51,7 +51,6 @@ public final class SagMemory {
     private final Search routeSearch = new Search();
     private final Sets setSearch = new Sets();
     private final Memory probe = new Memory();
-    private final Fraction fraction = new Fraction();
     private final int[] ownLosses = new int[MOST_BRIDGES * MOST_BRIDGES];
     private final int[] otherLosses = new int[MOST_BRIDGES * MOST_BRIDGES];
     private final Slot[] slots = new Slot[SLOTS];
@@ -567,8 +566,7 @@ public final class SagMemory {
                 sum += rows * (sagOfSet(set | 1 << cart) - sagOfSet(set));
             }
         }
-        fraction.reduce(sum, factorial(told.carts));
-        return (int) fraction.part(what);
+        return (int) lowestTerm(sum, factorial(told.carts), what);
     }
 
     public int rests(int cart, int other) {
@@ -613,8 +611,7 @@ public final class SagMemory {
                 sum += ways;
             }
         }
-        fraction.reduce(sum, power(10, told.carts));
-        return (int) fraction.part(what);
+        return (int) lowestTerm(sum, power(10, told.carts), what);
     }
 
     public long mean(int bridge, int what) {
@@ -629,8 +626,7 @@ public final class SagMemory {
                 sum += ways * attempt.atEnd().memories[bridge].depth();
             }
         }
-        fraction.reduce(sum, power(10, told.carts));
-        return fraction.part(what);
+        return lowestTerm(sum, power(10, told.carts), what);
     }
 
     // ---- acts ----
@@ -995,6 +991,27 @@ public final class SagMemory {
         return product;
     }
 
+    /** Of a fraction in lowest terms what is above (0) or below (1); its sign stands above. */
+    private static long lowestTerm(long above, long below, int what) {
+        long divisor = commonDivisor(Math.abs(above), below);
+        if (divisor <= 0) {
+            return what;
+        }
+        return (what == 0 ? above : below) / divisor;
+    }
+
+    /** Of two longs it takes no more than some ninety steps. */
+    private static long commonDivisor(long a, long b) {
+        long great = a;
+        long small = b;
+        for (int i = 0; i < 200 && small != 0; i++) {
+            long left = great % small;
+            great = small;
+            small = left;
+        }
+        return great;
+    }
+
     /** The TAPE, and what is read of it. */
     private static final class Tape {
         static final int END = 0;
@@ -1125,7 +1142,13 @@ public final class SagMemory {
                 return false;
             }
             read.wardOvers[ward] = number;
-            if (!expect("to") || !expectTarget(read.wardBridges[ward])) {
+            if (!expect("to")) {
+                return false;
+            }
+            if (isWord("halt")) {
+                number = NONE;
+                next();
+            } else if (!expectOther(read.wardBridges[ward]) || !expectNumber(0, read.bridges - 1)) {
                 return false;
             }
             read.wardTargets[ward] = number;
@@ -1133,16 +1156,12 @@ public final class SagMemory {
             return true;
         }
 
-        boolean expectTarget(int bridge) {
-            if (isWord("halt")) {
-                number = NONE;
-                next();
-                return true;
-            }
+        /** A WARD sends to another BRIDGE than its own; which ones there are is asked behind it. */
+        boolean expectOther(int bridge) {
             if (kind == NUMBER && value == bridge) {
                 return fail(2);
             }
-            return expectNumber(0, read.bridges - 1);
+            return true;
         }
 
         boolean parseFrost() {
@@ -1820,35 +1839,5 @@ public final class SagMemory {
         final Valley valley = new Valley();
         final Acts acts = new Acts();
         boolean has;
-    }
-
-    /** A fraction in lowest terms, its sign above. */
-    private static final class Fraction {
-        long above;
-        long below = 1;
-
-        void reduce(long newAbove, long newBelow) {
-            long divisor = common(Math.abs(newAbove), newBelow);
-            if (divisor > 0) {
-                above = newAbove / divisor;
-                below = newBelow / divisor;
-            }
-        }
-
-        long part(int what) {
-            return what == 0 ? above : below;
-        }
-
-        /** Of two longs it takes no more than some ninety steps. */
-        static long common(long a, long b) {
-            long great = a;
-            long small = b;
-            for (int i = 0; i < 200 && small != 0; i++) {
-                long left = great % small;
-                great = small;
-                small = left;
-            }
-            return great;
-        }
     }
 }

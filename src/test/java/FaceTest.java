@@ -2,18 +2,14 @@ import java.lang.reflect.Constructor;
 import java.lang.reflect.Field;
 import java.lang.reflect.Method;
 import java.lang.reflect.Modifier;
-import java.nio.file.Files;
-import java.nio.file.Path;
 import java.util.ArrayList;
 import java.util.Arrays;
 import java.util.HashSet;
 import java.util.List;
 import java.util.Set;
 import java.util.TreeSet;
-import java.util.regex.Matcher;
-import java.util.regex.Pattern;
 
-/** The public face is the document's and no more; the file keeps to what LANGUAGE.md leaves. */
+/** The public face is the document's and no more (rule 1 of LANGUAGE.md; LanguageTest has the others). */
 public final class FaceTest {
     private static final String NONE_OF_THEM = "()";
     // Methods of the document by how many ints they take; the others stand in OTHERS.
@@ -31,11 +27,10 @@ public final class FaceTest {
 
     private static final Told TOLD = new Told("FaceTest");
 
-    public static void main(String[] args) throws Exception {
+    public static void main(String[] args) {
         methods();
         fields();
         constructors();
-        source();
         TOLD.close();
     }
 
@@ -126,38 +121,10 @@ public final class FaceTest {
         TOLD.due("its parameters", all[0].getParameterCount(), 0);
         TOLD.due("it is public", Modifier.isPublic(all[0].getModifiers()) ? 1 : 0, 1);
         Class<?>[] inside = SagMemory.class.getDeclaredClasses();
-        TOLD.due("classes inside: " + inside.length, inside.length <= 12 ? 1 : 0, 1);
         for (Class<?> type : inside) {
             int kind = type.getModifiers();
             boolean open = Modifier.isPublic(kind) || Modifier.isProtected(kind);
             TOLD.due("hidden and static: " + type, !open && Modifier.isStatic(kind) ? 1 : 0, 1);
-        }
-    }
-
-    private static void source() throws Exception {
-        String text = Files.readString(Path.of("src/main/java/SagMemory.java"));
-        String code = text.replaceAll("(?s)/\\*.*?\\*/", "").replaceAll("//[^\n]*", "");
-        String[] refused = {"throw", "try", "catch", "synchronized", "assert", "package", "throws", "volatile",
-            "Thread", "Exact", "hashCode", "native", "abstract", "import", "System\\.(?!arraycopy)", "->", "::", "\" *\\+"};
-        for (String word : refused) {
-            boolean bare = !Character.isLetter(word.charAt(0)) || word.endsWith(")");
-            Matcher matcher = Pattern.compile(bare ? word : "\\b" + word + "\\b").matcher(code);
-            TOLD.due("the file has " + word, matcher.find() ? 1 : 0, 0);
-        }
-        // Calls make nothing: 'new' stands in fields and in constructors alone.
-        int made = 0;
-        for (String line : code.split("\n")) {
-            boolean field = line.contains("final ") || line.trim().matches("\\w+\\[\\w\\] = new \\w+\\(\\);");
-            if (line.contains("new ") && !field) {
-                made++;
-                System.out.println("made by a call? " + line.trim());
-            }
-        }
-        TOLD.due("objects made by calls", made, 0);
-        for (int i = 0; i < text.length(); i++) {
-            if (text.charAt(i) > 127) {
-                TOLD.due("sign at " + i, text.charAt(i), 127);
-            }
         }
     }
 }
